@@ -705,7 +705,7 @@ public final class SmithyBench {
 
         boolean fits(int type, int wanted) {
             if (type == NEVER || type == wanted) return true;
-            return type >= 0 && wanted >= 0 && isAtOrBelow(type, wanted);
+            return type >= 0 && wanted >= 0 && (above[type] >>> wanted & 1) == 1;
         }
 
         int typeOfField(int of, int itsName) {
@@ -715,7 +715,7 @@ public final class SmithyBench {
         /** The class, at or above the one that is told, that has a field. */
         int holderOf(int of, int itsName) {
             for (int c = of; c >= 0; c--) {
-                if (isAtOrBelow(of, c) && fieldType[c * MOST_NAMES + itsName] != ABSENT) return c;
+                if ((above[of] >>> c & 1) == 1 && fieldType[c * MOST_NAMES + itsName] != ABSENT) return c;
             }
             return NONE;
         }
@@ -728,7 +728,7 @@ public final class SmithyBench {
         }
 
         boolean isCalled(int method, int itsName, int itsArity) {
-            return isThere(method) && name[method] == itsName && arity[method] == itsArity;
+            return (there >>> method & 1) == 1 && name[method] == itsName && arity[method] == itsArity;
         }
 
         int methodIn(int of, int itsName, int itsArity) {
@@ -743,8 +743,8 @@ public final class SmithyBench {
             int found = NONE;
             for (int m = 0; m < methods; m++) {
                 // Parents are earlier classes: of those above, the next one is the highest number.
-                boolean canBe = isCalled(m, itsName, itsArity) && isAtOrBelow(of, owner[m]);
-                if (canBe && (found == NONE || owner[m] > owner[found])) found = m;
+                boolean isSuch = (there >>> m & 1) == 1 && name[m] == itsName && arity[m] == itsArity;
+                if (isSuch && (above[of] >>> owner[m] & 1) == 1 && (found == NONE || owner[m] > owner[found])) found = m;
             }
             return found;
         }
