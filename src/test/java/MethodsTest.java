@@ -167,6 +167,8 @@ public final class MethodsTest {
         due.is("the last fresh name", c.x.inline(2, 31), 34);
         due.is("its LET", c.x.node(2, 31, 1), 15);
         due.is("its VAR", c.x.node(2, 33, 1), 15);
+        c.method(0, "d", "", INT, names + "(+ (call b this 1) (let p 2 p))" + ")".repeat(13));
+        due.is("no first fresh name", c.x.inline(3, 27), TOO_MANY);
     }
 
     private static void extract() {

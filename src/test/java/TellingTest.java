@@ -17,6 +17,7 @@ public final class TellingTest {
         due.part("promise 16, bodies", TellingTest::wrongBodies);
         due.part("promise 16, types", TellingTest::typesOfNodes);
         due.part("promise 16, overriding", TellingTest::wrongOverriding);
+        due.part("promise 16, told later", TellingTest::laterTelling);
         due.part("promise 17", TellingTest::begin);
         due.end();
     }
@@ -243,6 +244,9 @@ public final class TellingTest {
         due.badState("one that is there", () -> x.method(0, 0, NONE, NONE, INT, n));
         due.badState("one that is there, another type", () -> x.method(0, 0, NONE, NONE, 0, n));
         due.is("nothing was told by these", x.method(0, 0, 0, NONE, INT, n), 1);
+        due.badState("one that is there, with one", () -> x.method(0, 0, 100, NONE, INT, n));
+        due.is("with two", x.method(0, 0, 0, 1, INT, n), 2);
+        due.badState("one that is there, with two", () -> x.method(0, 0, 2, 103, INT, n));
     }
 
     private static void methodsHaveLimits() {
@@ -396,6 +400,26 @@ public final class TellingTest {
         z.method(0, 0, 1, 2, INT, two);
         z.method(1, 0, 1, 102, INT, two);
         due.is("the second one's type", z.wrong(), 1);
+    }
+
+    private static void laterTelling() {
+        SmithyBench x = new SmithyBench();
+        x.classOf(NONE);
+        x.method(0, 0, NONE, NONE, INT, x.var(5));
+        x.classOf(0);
+        due.is("a class told later does not help", x.wrong(), 0);
+        x.fieldOf(1, 5, INT);
+        due.is("nor does a field below", x.wrong(), 0);
+        SmithyBench y = new SmithyBench();
+        y.classOf(NONE);
+        y.method(0, 0, NONE, NONE, INT, y.var(5));
+        due.is("a name of nothing", y.wrong(), 0);
+        y.fieldOf(0, 5, INT);
+        due.is("a field told later", y.wrong(), NONE);
+        y.method(0, 2, NONE, NONE, INT, y.call(y.self(), 1, NONE, NONE));
+        due.is("a call of nothing", y.wrong(), 1);
+        y.method(0, 1, NONE, NONE, INT, y.number(1));
+        due.is("a method told later", y.wrong(), NONE);
     }
 
     private static void begin() {

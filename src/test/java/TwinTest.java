@@ -152,7 +152,37 @@ public final class TwinTest {
         return how + " " + value;
     }
 
+    private int anyNumber() {
+        switch (random.nextInt(12)) {
+            case 0: return random.nextInt();
+            case 1: return Integer.MIN_VALUE + random.nextInt(3);
+            case 2: return Integer.MAX_VALUE - random.nextInt(3);
+            case 3: return random.nextInt(900) - 150;
+            case 4: return random.nextInt(30);
+            default: return random.nextInt(6) - 2;
+        }
+    }
+
+    /** Calls with any arguments whatever, in any order; those that tell come more often at first. */
+    void goAnyWay() {
+        List<String> calls = new ArrayList<>(new java.util.TreeSet<>(OURS.keySet()));
+        for (int i = 0; i < 500; i++) {
+            String call = calls.get(random.nextInt(calls.size()));
+            if (random.nextInt(500) > i) call = List.of("classOf", "number", "var", "self", "let", "two", "call", "field", "fieldOf", "method", "method").get(random.nextInt(11));
+            Class<?>[] types = OURS.get(call).getParameterTypes();
+            Object[] arguments = new Object[types.length];
+            for (int k = 0; k < types.length; k++) arguments[k] = types[k] == boolean.class ? (Object) random.nextBoolean() : (Object) anyNumber();
+            String answer = ask(call, arguments);
+            seen.merge("any " + call + " " + (answer.matches("\\d+") ? "done" : answer), 1, Integer::sum);
+        }
+        compareAll();
+    }
+
     void go() {
+        if (seed % 4 == 3) {
+            goAnyWay();
+            return;
+        }
         programs = new Programs(random, this::tell);
         boolean isWild = random.nextInt(6) == 0;
         programs.tellAll(isWild);
