@@ -3,6 +3,8 @@ final class Due {
     interface Call { int go(); }
     interface Act { void go(); }
 
+    private static final int MOST_TOLD = 40;
+
     private final String of;
     private String part = "";
     private int wrong;
@@ -11,6 +13,14 @@ final class Due {
 
     void is(String what, long got, long want) {
         if (got != want) tell(what + " answered " + got + ", due is " + want);
+    }
+
+    void same(String what, String got, String want) {
+        if (got.equals(want)) return;
+        String[] gots = got.split("\n"), wants = want.split("\n");
+        int i = 0;
+        while (i < gots.length - 1 && i < wants.length - 1 && gots[i].equals(wants[i])) i++;
+        tell(what + " answered " + gots[i] + ", due is " + wants[i]);
     }
 
     /** The body of a method, as text. */
@@ -74,7 +84,7 @@ final class Due {
 
     private void tell(String text) {
         wrong++;
-        System.out.println(of + ", " + part + ": " + text);
+        if (wrong <= MOST_TOLD) System.out.println(of + ", " + part + ": " + text);
     }
 
     void end() {
