@@ -9,6 +9,7 @@ public final class ChangingTest {
         due.part("families of 24", ChangingTest::largeFamilies);
         due.part("fresh names", ChangingTest::freshNames);
         due.part("fresh names, inlined", ChangingTest::freshNamesOfBoth);
+        due.part("fresh names, of others", ChangingTest::freshNamesOfOthers);
         due.part("made plain by a field", ChangingTest::plainByField);
         due.part("made plain by a local", ChangingTest::plainByLocal);
         due.part("made plain by inlining", ChangingTest::plainByInlining);
@@ -107,6 +108,19 @@ public final class ChangingTest {
             due.is(r[2] + " is inlined", b.x.inline(1, place) > 0 ? 1 : 0, 1);
             due.body(b.x, 1, r[3]);
         }
+    }
+
+    /** Names of a method that takes no part are those of another one, even of the next one. */
+    private static void freshNamesOfOthers() {
+        Bench b = new Bench(-1);
+        b.method(0, "a", "b- c-", INT, "(+ b c)");
+        b.method(0, "b", "d- e-", INT, "(let f 1 f)");
+        b.method(0, "c", "g- h-", INT, "(call a this 1 2)");
+        b.method(0, "d", "e-", INT, "(let e 1 e)");
+        due.is("inlined", b.x.inline(2, 0), 7);
+        due.body(b.x, 2, "(let d 1 (let e 2 (+ d e)))");
+        due.is("added", b.x.addParameter(3, 1), 0);
+        due.is("the first name", b.x.tell(3, 4), 0);
     }
 
     private static void plainByField() {
@@ -618,11 +632,10 @@ public final class ChangingTest {
         b.method(0, "b", "", INT, "(call a this 3)");
         for (int i = 0; i < 15; i++) {
             due.is("inlined", b.x.inline(1, 0), 8);
-            int[] bound = {0, 0, 0, 0, 0, 0, 0, 0}, kinds = {5, 0, 11, 1, 11, 1, 6, 1}, types = {-1, -1, -1, -1, -1, -1, -1, -1};
+            int[] kinds = {5, 0, 11, 1, 11, 1, 6, 1};
             for (int place = 0; place < 8; place++) {
                 due.is("kind", b.x.node(1, place, 0), kinds[place]);
-                due.is("type", b.x.node(1, place, 2), types[place]);
-                due.is("bound", b.x.node(1, place, 3), bound[place]);
+                due.is("bound", b.x.node(1, place, 3), 0);
             }
             due.is("undone", b.x.undo(), 2 * Math.min(i, 4) + (i > 4 ? 1 : 0));
             due.is("renamed", b.x.renameField(0, 15 - i % 2, 14 + i % 2), 0);

@@ -13,31 +13,40 @@ final class Refusals {
 
     private void answers(String what, Maker maker, Later.Call call, String want) {
         due.same(what, Later.answer(maker.make().x, call), want);
-        SmithyBench with = ready(maker), without = ready(maker);
-        due.same(what + ", when there is something to undo", Later.answer(with, call), want);
-        due.same(what + ", and what is undone later", Later.byUndoing(with), Later.byUndoing(without));
-        with = ready(maker);
-        without = ready(maker);
-        Later.answer(with, call);
-        due.same(what + ", and what is told later", Later.byTelling(with), Later.byTelling(without));
+        due.same(what + ", when there is something to undo", Later.answer(ready(maker), call), want);
+        due.same(what + ", and what is undone later", Later.byUndoing(() -> behind(maker, call)), Later.byUndoing(() -> ready(maker)));
+        due.same(what + ", and what is told later", Later.byTelling(() -> behind(maker, call)), Later.byTelling(() -> ready(maker)));
     }
 
-    /** What a maker makes, behind a run and two changes that together change nothing, if it is right. */
+    private static SmithyBench behind(Maker maker, Later.Call call) {
+        SmithyBench x = ready(maker);
+        Later.answer(x, call);
+        return x;
+    }
+
+    /** What a maker makes, behind a run and two changes that together change nothing, where these can be done. */
     private static SmithyBench ready(Maker maker) {
         SmithyBench x = maker.make().x;
-        for (int i = 0; i < 24 * 6; i++) {
-            int m = i / 6, of = i % 6;
-            if (!Later.answer(x, y -> y.run(m, of, 6, 7, false)).endsWith("Exception")) break;
-        }
-        for (int i = 0; i < 24 * 16; i++) {
-            int m = i / 16, other = 15 - i % 16;
-            String own = Later.answer(x, y -> y.tell(m, 1));
-            if (own.endsWith("Exception")) continue;
-            String renamed = Later.answer(x, y -> y.renameMethod(m, other));
-            if (renamed.endsWith("Exception") || renamed.startsWith("-")) continue;
-            x.renameMethod(m, Integer.parseInt(own));
-            return x;
-        }
+        for (int m = 0; m < 4; m++) if (hasRun(x, m)) break;
+        for (int m = 0; m < 4; m++) if (hasChanged(x, m)) break;
         return x;
+    }
+
+    private static boolean isDone(String answer) { return !answer.endsWith("Exception") && !answer.startsWith("-"); }
+
+    private static boolean hasRun(SmithyBench x, int m) {
+        String of = Later.answer(x, y -> y.tell(m, 0));
+        return isDone(of) && isDone(Later.answer(x, y -> y.run(m, Integer.parseInt(of), 6, 7, false)));
+    }
+
+    private static boolean hasChanged(SmithyBench x, int m) {
+        String own = Later.answer(x, y -> y.tell(m, 1));
+        if (!isDone(own)) return false;
+        for (int i = 15; i > 11; i--) {
+            int other = i;
+            if (isDone(Later.answer(x, y -> y.renameMethod(m, other)))) return isDone(Later.answer(x, y -> y.renameMethod(m, Integer.parseInt(own))));
+        }
+        int last = x.tell(m, 2);
+        return isDone(Later.answer(x, y -> y.addParameter(m, 5))) && isDone(Later.answer(x, y -> y.dropParameter(m, last)));
     }
 }

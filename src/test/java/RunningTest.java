@@ -97,7 +97,7 @@ public final class RunningTest {
     private static void manyRuns() {
         Bench b = bench();
         b.method(0, "a", "", INT, "(seq (seq new1 new1) (seq (set a (+ a 1)) (seq new0 a)))");
-        for (int i = 0; i < 400; i++) {
+        for (int i = 0; i < 150; i++) {
             due.is("run", b.x.run(2, 0, 0, 0, false), NUMBER);
             due.is("each has a new object", b.x.value(), 1);
             due.is("and as many steps", b.x.steps(), 12);

@@ -13,7 +13,7 @@ public final class TwinTest {
     static final TreeMap<String, Integer> seen = new TreeMap<>();
     static final TreeMap<String, Integer> oddities = new TreeMap<>();
 
-    private final SmithyBench ours = new SmithyBench();
+    private final Replayed ours = new Replayed();
     private final PlainBench plain = new PlainBench();
     private final long seed;
     private final Random random;
@@ -21,6 +21,42 @@ public final class TwinTest {
     private final boolean isLogged;
     private Programs programs;
     private boolean hasDropped;
+
+    /** An object that is made anew, and told all that was done, before more calls are made than it is promised for. */
+    static final class Replayed {
+        private static final int MOST_CALLS = 512;
+        private final List<Object[]> done = new ArrayList<>();
+        private SmithyBench bench = new SmithyBench();
+        private Object[] lastRun;
+        private int calls;
+
+        String ask(String call, Object... arguments) {
+            if (calls == MOST_CALLS) renew();
+            String answer = once(call, arguments);
+            boolean isDone = !answer.endsWith("Exception") && !answer.startsWith("-");
+            if (!isDone || List.of("tell", "node", "wrong", "value", "steps").contains(call)) return answer;
+            Object[] step = {call, arguments};
+            done.add(step);
+            if (call.equals("run")) {
+                done.remove(lastRun);
+                lastRun = step;
+            }
+            return answer;
+        }
+
+        private String once(String call, Object[] arguments) {
+            calls++;
+            return answer(bench, OURS.get(call), arguments);
+        }
+
+        private void renew() {
+            bench = new SmithyBench();
+            calls = 0;
+            for (Object[] step : done) once((String) step[0], (Object[]) step[1]);
+        }
+
+        boolean isWornOut() { return done.size() > MOST_CALLS - 40; }
+    }
 
     TwinTest(long seed, boolean isLogged) {
         this.seed = seed;
@@ -47,7 +83,7 @@ public final class TwinTest {
 
     String ask(String call, Object... arguments) {
         String theirs = answer(plain, PLAIN.get(call), arguments);
-        String mine = answer(ours, OURS.get(call), arguments);
+        String mine = ours.ask(call, arguments);
         if (isLogged) log.add(call + java.util.Arrays.toString(arguments) + " -> " + theirs);
         if (!mine.equals(theirs)) throw new IllegalStateException("seed " + seed + ": " + call + java.util.Arrays.toString(arguments) + " answered " + mine + ", the plain one " + theirs);
         return mine;
@@ -83,12 +119,12 @@ public final class TwinTest {
 
     /** A place of one of these kinds, if there is one; otherwise any. */
     private int somePlace(int method, int... kinds) {
-        String told = answer(ours, OURS.get("tell"), new Object[] {method, 6});
+        String told = ours.ask("tell", method, 6);
         if (told.endsWith("Exception")) return random.nextInt(3);
         int size = Integer.parseInt(told);
         int from = random.nextInt(size);
         for (int i = 0; i < size && random.nextInt(40) != 0; i++) {
-            int kind = Integer.parseInt(answer(ours, OURS.get("node"), new Object[] {method, (from + i) % size, 0}));
+            int kind = Integer.parseInt(ours.ask("node", method, (from + i) % size, 0));
             for (int k : kinds) if (k == kind) return (from + i) % size;
         }
         return random.nextInt(40) == 0 ? random.nextInt(64) - 2 : from;
@@ -166,7 +202,7 @@ public final class TwinTest {
     /** Calls with any arguments whatever, in any order; those that tell come more often at first. */
     void goAnyWay() {
         List<String> calls = new ArrayList<>(new java.util.TreeSet<>(OURS.keySet()));
-        for (int i = 0; i < 500; i++) {
+        for (int i = 0; i < 500 && !ours.isWornOut(); i++) {
             String call = calls.get(random.nextInt(calls.size()));
             if (random.nextInt(500) > i) call = List.of("classOf", "number", "var", "self", "let", "two", "call", "field", "fieldOf", "method", "method").get(random.nextInt(11));
             Class<?>[] types = OURS.get(call).getParameterTypes();
@@ -190,7 +226,7 @@ public final class TwinTest {
         compareAll();
         if (ask("begin").endsWith("Exception") && random.nextInt(4) != 0) return;
         compareRuns("begin");
-        for (int i = 0; i < 60; i++) {
+        for (int i = 0; i < 60 && !ours.isWornOut(); i++) {
             change();
             if (random.nextInt(12) == 0) seen.merge("undo " + (ask("undo").endsWith("Exception") ? "none" : "done"), 1, Integer::sum);
             if (random.nextInt(80) == 0) retell();

@@ -46,37 +46,32 @@ public final class UndoingTest {
         new Change("enclose", x -> x.enclose(0, 4, 9, 10)),
         new Change("removeDead", x -> x.removeDead(2))};
 
-    private static void eachChange() {
-        for (Change c : CHANGES) {
-            Bench with = bench(), without = bench();
-            due.is(c.name() + " is done", c.call().go(with.x) >= 0 ? 1 : 0, 1);
-            due.is(c.name() + " is seen", now(with.x).equals(now(without.x)) ? 0 : 1, 1);
-            without = bench();
-            with = bench();
-            c.call().go(with.x);
-            due.is(c.name() + " is undone", with.x.undo(), 0);
-            due.same(c.name() + ", undone", Later.byUndoing(with.x), Later.byUndoing(without.x));
-            due.same(c.name() + ", undone, and what is told then", Later.byTelling(with.x), Later.byTelling(without.x));
-        }
+    private static SmithyBench behind(Change... changes) {
+        SmithyBench x = bench().x;
+        for (Change c : changes) Later.answer(x, c.call());
+        return x;
     }
 
-    /** All of a program, without what is undone. */
-    private static String now(SmithyBench x) {
-        String text = Later.byUndoing(x);
-        return text.substring(0, text.indexOf("undo"));
+    private static final Change UNDO = new Change("undo", SmithyBench::undo);
+
+    private static void eachChange() {
+        for (Change c : CHANGES) {
+            due.is(c.name() + " is done", c.call().go(bench().x) >= 0 ? 1 : 0, 1);
+            due.is(c.name() + " is seen", Later.now(() -> behind(c)).equals(Later.now(() -> behind())) ? 0 : 1, 1);
+            due.is(c.name() + " is undone", behind(c).undo(), 0);
+            due.same(c.name() + ", undone", Later.byUndoing(() -> behind(c, UNDO)), Later.byUndoing(() -> behind()));
+            due.same(c.name() + ", undone, and what is told then", Later.byTelling(() -> behind(c, UNDO)), Later.byTelling(() -> behind()));
+        }
     }
 
     private static void twoChanges() {
         for (Change one : CHANGES) for (Change two : CHANGES) {
-            Bench with = bench(), first = bench();
-            one.call().go(with.x);
-            one.call().go(first.x);
-            String answer = Later.answer(with.x, two.call());
+            String what = one.name() + ", then " + two.name(), answer = Later.answer(behind(one), two.call());
             if (answer.startsWith("-") || answer.endsWith("Exception")) {
-                due.same(one.name() + ", then " + two.name() + " refused", Later.byUndoing(with.x), Later.byUndoing(first.x));
+                due.same(what + ", refused", Later.byUndoing(() -> behind(one, two)), Later.byUndoing(() -> behind(one)));
             } else {
-                due.is(one.name() + ", then " + two.name(), with.x.undo(), 1);
-                due.same(one.name() + ", then " + two.name(), Later.byUndoing(with.x), Later.byUndoing(first.x));
+                due.is(what, behind(one, two).undo(), 1);
+                due.same(what, Later.byUndoing(() -> behind(one, two, UNDO)), Later.byUndoing(() -> behind(one)));
             }
         }
     }
