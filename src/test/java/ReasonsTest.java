@@ -146,8 +146,6 @@ public final class ReasonsTest {
         }
         due.is("a LET", kinds().x.renameLocal(0, 0, 9), 2);
         calls.refused("with the name of a parameter", ReasonsTest::kinds, x -> x.renameLocal(0, 3, 1), NOT_THAT);
-        // What is no LET has no name that would be its own.
-        calls.refused("with the name that the node has", ReasonsTest::kinds, x -> x.renameLocal(0, 3, 2), NOT_THAT);
     }
 
     private static Bench body(String parameters, String body) {

@@ -11,6 +11,7 @@ public final class RunningTest {
         due.part("fields of the object", RunningTest::fieldsOfObjects);
         due.part("many runs", RunningTest::manyRuns);
         due.part("the class of the object", RunningTest::dispatch);
+        due.part("what nodes give", RunningTest::given);
         due.part("order", RunningTest::order);
         due.part("what is raised at nothing", RunningTest::atNothing);
         due.part("raising", RunningTest::raising);
@@ -120,6 +121,38 @@ public final class RunningTest {
         }
         // A method runs on what it is told of, whatever overrides it.
         is("the method that is run", b, 0, 2, NUMBER, 0);
+    }
+
+    private static void given() {
+        is("7", NUMBER, 7);
+        is("a", NUMBER, 0);
+        is("(set a 5)", NUMBER, 5);
+        is("(put a this 6)", NUMBER, 6);
+        is("(seq (set a 5) a)", NUMBER, 5);
+        is("(seq (put a this 6) (field a this))", NUMBER, 6);
+        is("(put a this (set b 8))", NUMBER, 8);
+        is("(field a (put c this (seq (set a 4) this)))", NUMBER, 4);
+        is("(let d 3 4)", NUMBER, 4);
+        is("(let d 3 d)", NUMBER, 3);
+        is("(let d 3 (set d 9))", NUMBER, 9);
+        is("(let d 3 (seq (set d 9) d))", NUMBER, 9);
+        is("(call f this 1 2)", NUMBER, 2);
+        is("(seq 1 2)", NUMBER, 2);
+        is("(test 1 2 3)", NUMBER, 2);
+        is("(test 0 2 3)", NUMBER, 3);
+        is("(+ 1 2)", NUMBER, 3);
+        is("(- 1 2)", NUMBER, -1);
+        is("(* 3 2)", NUMBER, 6);
+        is("(< 1 2)", NUMBER, 1);
+        is("(< 2 1)", NUMBER, 0);
+        is("(guard 1 2)", NUMBER, 1);
+        Bench b = bench();
+        b.method(1, "a", "", 0, "(put c this new1)");
+        b.method(1, "b", "", 0, "(set c this)");
+        b.method(1, "c", "", 0, "(let d c (set d new0))");
+        b.method(1, "d", "", 0, "(guard (raise 1) (test 0 new0 this))");
+        int[] want = {1, 1, 0, 1};
+        for (int m = 2; m < 6; m++) is("an object of method " + m, b, m, 1, OBJECT, want[m - 2]);
     }
 
     /** Logs a digit: the field a is 10 times what it was, and the digit. */

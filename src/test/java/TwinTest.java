@@ -81,7 +81,15 @@ public final class TwinTest {
         }
     }
 
+    /** Whether the document leaves the answer open: what is no LET may have a name of its own, or none. */
+    private boolean isOpen(String call, Object... arguments) {
+        if (!call.equals("renameLocal") || (Integer) arguments[1] < 0) return false;
+        String name = ours.ask("node", arguments[0], arguments[1], 1), kind = ours.ask("node", arguments[0], arguments[1], 0);
+        return !kind.equals("5") && name.equals(arguments[2].toString());
+    }
+
     String ask(String call, Object... arguments) {
+        if (isOpen(call, arguments)) return "-";
         String theirs = answer(plain, PLAIN.get(call), arguments);
         String mine = ours.ask(call, arguments);
         if (isLogged) log.add(call + java.util.Arrays.toString(arguments) + " -> " + theirs);
